@@ -12,6 +12,7 @@ public final class RollCall {
     private static final int NAME_BITS = 64;
     private static final int SUMMED_BITS = 56;
     private static final int SUM_BITS = 8;
+    private static final long FIRST_BIT = 1L << 63;
 
     // Each bit of a row leaves at most one row waiting under the topmost one.
     private static final int MOST_ROWS = NAME_BITS + 1;
@@ -578,13 +579,15 @@ public final class RollCall {
         }
 
         void copyFrom(Tags other) {
-            System.arraycopy(other.kinds, 0, kinds, 0, MOST_TAGS);
-            System.arraycopy(other.names, 0, names, 0, MOST_TAGS);
-            System.arraycopy(other.seeds, 0, seeds, 0, MOST_TAGS);
-            System.arraycopy(other.there, 0, there, 0, MOST_TAGS);
-            System.arraycopy(other.awake, 0, awake, 0, MOST_TAGS);
-            System.arraycopy(other.counters, 0, counters, 0, MOST_TAGS);
-            System.arraycopy(other.framed, 0, framed, 0, MOST_TAGS);
+            for (int t = 0; t < other.size; t++) {
+                kinds[t] = other.kinds[t];
+                names[t] = other.names[t];
+                seeds[t] = other.seeds[t];
+                there[t] = other.there[t];
+                awake[t] = other.awake[t];
+                counters[t] = other.counters[t];
+                framed[t] = other.framed[t];
+            }
             size = other.size;
             mask = other.mask;
             groupBits = other.groupBits;
@@ -850,7 +853,7 @@ public final class RollCall {
 
         private static boolean isAhead(long a, long b) {
             // A NAME's bit 0 is no sign: a name that begins with 1 comes behind.
-            return (a ^ Long.MIN_VALUE) < (b ^ Long.MIN_VALUE);
+            return (a ^ FIRST_BIT) < (b ^ FIRST_BIT);
         }
 
         int inDescent(Slot slot, int wireKind) {

@@ -2,7 +2,7 @@ import java.util.Random;
 
 /** Long runs of calls, of many moods, on RollCall and on the model at once: every answer is compared. */
 public final class ModelTest {
-    private static final int RUNS = 3000;
+    private static final int RUNS = 2000;
     private static final int CALLS_OF_A_RUN = 512;
     private static final int MOODS = 7;
 
