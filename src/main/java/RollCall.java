@@ -12,7 +12,6 @@ public final class RollCall {
     private static final int NAME_BITS = 64;
     private static final int SUMMED_BITS = 56;
     private static final int SUM_BITS = 8;
-    private static final long FIRST_BIT = 1L << 63;
 
     // Each bit of a row leaves at most one row waiting under the topmost one.
     private static final int MOST_ROWS = NAME_BITS + 1;
@@ -841,7 +840,8 @@ public final class RollCall {
 
         private void insert(long name, boolean isWeak) {
             int place = size;
-            while (place > 0 && isAhead(name, names[place - 1])) {
+            // Any order will do that has equal beginnings side by side, that of signed numbers too.
+            while (place > 0 && name < names[place - 1]) {
                 names[place] = names[place - 1];
                 weak[place] = weak[place - 1];
                 place--;
@@ -849,11 +849,6 @@ public final class RollCall {
             names[place] = name;
             weak[place] = isWeak;
             size++;
-        }
-
-        private static boolean isAhead(long a, long b) {
-            // A NAME's bit 0 is no sign: a name that begins with 1 comes behind.
-            return (a ^ FIRST_BIT) < (b ^ FIRST_BIT);
         }
 
         int inDescent(Slot slot, int wireKind) {
