@@ -1,33 +1,5 @@
 /** For each promise: ordinary inputs, the edges that the document names, and wrong inputs. */
-public final class PromisesTest {
-    private static final int NONE = RollCall.NONE;
-
-    private static final int BIT = 0;
-    private static final int ASKED = 1;
-    private static final int SLOTTED = 2;
-    private static final int SPLIT = 3;
-    private static final int SLEEPER = 4;
-    private static final int WEAK = 5;
-
-    private static final int QUIET = 0;
-    private static final int ALONE = 1;
-    private static final int COLLISION = 2;
-
-    private static final int GO = 0;
-    private static final int COME_BACK = 1;
-    private static final int WAKE_UP = 2;
-    private static final int FALL_ASLEEP = 3;
-
-    // The NAME's bit 0, in the number that tag() takes and in the NAME.
-    private static final long FIRST = 1L << 55;
-    private static final long FIRST_OF_NAME = Long.MIN_VALUE;
-
-    // Seeds by their first draw: (1103515245 * 0 + 12345) >>> 16 is 0, that of 3 is 50515.
-    private static final int DRAWS_0 = 0;
-    private static final int DRAWS_1_OF_2_AND_3_OF_4 = 3;
-
-    private static String promise = "";
-
+public final class PromisesTest extends Words {
     private PromisesTest() {
     }
 
@@ -71,23 +43,7 @@ public final class PromisesTest {
     }
 
     private static void promise(int number, String title) {
-        promise = "promise " + number + ", " + title + ": ";
-    }
-
-    private static void due(String call, long got, long want) {
-        Check.due(promise + call, got, want);
-    }
-
-    private static void due(String call, boolean got, boolean want) {
-        Check.due(promise + call, got, want);
-    }
-
-    private static RollCall withTags(int kind, long... numbers) {
-        RollCall x = new RollCall();
-        for (long number : numbers) {
-            x.tag(kind, number, 0);
-        }
-        return x;
+        Check.about("promise " + number + ", " + title);
     }
 
     private static void newObject() {
@@ -906,48 +862,11 @@ public final class PromisesTest {
         due("images are of one object", other.again(2), false);
     }
 
-    private static long[] allThatIsTold(RollCall x) {
-        long[] all = new long[100];
-        int n = 0;
-        for (int t = 0; t < 5; t++) {
-            all[n++] = x.name(t);
-            for (int what = 0; what < 7; what++) {
-                all[n++] = x.tell(t, what);
-            }
-        }
-        for (int what = 0; what < 5; what++) {
-            all[n++] = x.count(what);
-            all[n++] = x.cost(what);
-            all[n++] = x.heard(what);
-            all[n++] = x.fork(what);
-        }
-        for (int k = 0; k < 12; k++) {
-            all[n++] = x.found(k);
-        }
-        all[n++] = x.alone();
-        all[n++] = x.nodes();
-        return all;
-    }
-
     private static void dueAll(String when, RollCall x, long[] want) {
-        long[] got = allThatIsTold(x);
+        long[] got = Told.now(x, 5);
         for (int i = 0; i < want.length; i++) {
             due(when + ", told at place " + i, got[i], want[i]);
         }
-    }
-
-    /** What goes on from a state shows what no call tells: the pile's rows, who was found in frames. */
-    private static long goOn(RollCall x) {
-        long answers = 0L;
-        for (int i = 0; i < 8; i++) {
-            answers = answers * 31 + x.step();
-            answers = answers * 31 + x.alone();
-            answers = answers * 31 + x.split();
-            answers = answers * 31 + x.pass();
-            answers = answers * 31 + x.frame(2);
-            answers = answers * 31 + x.cost(4);
-        }
-        return answers;
     }
 
     private static void againHasAll() {
@@ -969,9 +888,9 @@ public final class PromisesTest {
         x.step();
         x.pass();
         x.ask(FIRST_OF_NAME, 1);
-        long[] then = allThatIsTold(x);
+        long[] then = Told.now(x, 5);
         x.image(3);
-        long first = goOn(x);
+        long first = Told.goingOn(x);
         x.tag(ASKED, 9L, 0);
         x.act(0, GO);
         x.act(1, FALL_ASLEEP);
@@ -982,9 +901,9 @@ public final class PromisesTest {
         x.frames();
         x.again(3);
         dueAll("again", x, then);
-        due("it goes on alike", goOn(x), first);
+        due("it goes on alike", Told.goingOn(x), first);
         x.again(0);
-        dueAll("as a new one", x, allThatIsTold(new RollCall()));
+        dueAll("as a new one", x, Told.now(new RollCall(), 5));
         for (int number = 20; number < 26; number++) {
             x.tag(ASKED, number, 0);
             x.pass();
@@ -994,7 +913,7 @@ public final class PromisesTest {
         x.step();
         x.again(3);
         dueAll("once more", x, then);
-        due("it goes on alike", goOn(x), first);
+        due("it goes on alike", Told.goingOn(x), first);
     }
 
     private static void fortyTags() {
