@@ -624,6 +624,8 @@ public final class PromiseEdgesTest extends Words {
         due("one", x.nodes(), 1);
         x.tag(ASKED, 1L, 0);
         due("two that part at the last bit", x.nodes(), 1 + 2 * 56);
+        x.tag(ASKED, FIRST, 0);
+        due("and one apart from them", x.nodes(), 1 + 2 * 56);
         RollCall y = new RollCall();
         for (int t = 0; t < 40; t++) {
             y.tag(ASKED, (long) t << 50, 0);
@@ -651,8 +653,11 @@ public final class PromiseEdgesTest extends Words {
         due("in air the one that is not WEAK", x.nodes(), 1);
         x.tag(SLOTTED, FIRST | 1L, 0);
         due("two of these: one at 0, one at 1", x.nodes(), 3);
+        x.tag(SLOTTED, FIRST >>> 2, 0);
+        due("a third: 1, then 000 with 001, then 01", x.nodes(), 7);
         x.act(2, GO);
         x.act(3, GO);
+        x.act(4, GO);
         due("WEAK ones with none over them", x.nodes(), 3);
     }
 
@@ -870,6 +875,13 @@ public final class PromiseEdgesTest extends Words {
         sentence(26, "All that is as image k has it: true");
         emptyAndFullAgain();
         everyPartAgain();
+        tagsAgain();
+        wireAndGroupAgain();
+        passesAgain();
+        descentAgain();
+        splitAgain();
+        framesAgain();
+        foundAgain();
     }
 
     private static void emptyAndFullAgain() {
@@ -932,5 +944,131 @@ public final class PromiseEdgesTest extends Words {
         due("it goes on alike", Told.goingOn(x), first);
         due("once more", x.again(1), true);
         due("it goes on alike", Told.goingOn(x), first);
+    }
+
+    private static void tagsAgain() {
+        RollCall x = new RollCall();
+        x.image(0);
+        x.tag(SLEEPER, 1L, 7);
+        x.act(0, WAKE_UP);
+        x.image(1);
+        x.again(0);
+        x.tag(BIT, 2L, 9);
+        x.act(0, GO);
+        x.again(1);
+        due("name", x.name(0), 305L);
+        int[] told = {SLEEPER, 1, 1, 1, NONE, 7, 0};
+        for (int what = 0; what < told.length; what++) {
+            due("tell(0, " + what + ")", x.tell(0, what), told[what]);
+        }
+        due("one", x.count(0), 1);
+    }
+
+    private static void wireAndGroupAgain() {
+        RollCall x = withTags(WEAK, 1L, 2L);
+        x.tag(SLOTTED, 3L, 0);
+        x.wire(AIR);
+        x.image(0);
+        x.wire(COPPER);
+        x.group(-1L, 305L);
+        x.image(1);
+        x.group(-1L, 610L);
+        x.again(1);
+        due("in the group", x.tell(0, 3), 1);
+        due("not in it", x.tell(1, 3), 0);
+        x.again(0);
+        due("all", x.count(1), 3);
+        due("air", x.ask(0L, 0), ALONE);
+        x.again(1);
+        x.group(0L, 0L);
+        due("copper", x.ask(0L, 0), COLLISION);
+    }
+
+    private static void passesAgain() {
+        RollCall x = withTags(BIT, 0L, FIRST, FIRST | 1L);
+        x.pass();
+        x.pass();
+        x.image(0);
+        due("the third", x.pass(), 2);
+        due("the first", x.pass(), 0);
+        x.again(0);
+        due("last fork", x.fork(0), 55);
+        due("passes", x.fork(1), 2);
+        due("the third again", x.pass(), 2);
+    }
+
+    private static void descentAgain() {
+        RollCall x = withTags(ASKED, FIRST, FIRST | FIRST >>> 1, 0L, FIRST >>> 1);
+        x.group(FIRST_OF_NAME, FIRST_OF_NAME);
+        x.descend();
+        x.step();
+        x.step();
+        x.step();
+        x.image(0);
+        x.group(0L, 0L);
+        x.descend();
+        x.step();
+        x.step();
+        due("1, 01 and 00", x.count(3), 3);
+        x.again(0);
+        due("11 and 10", x.count(3), 2);
+        due("10", x.step(), ALONE);
+        due("that", x.alone(), 0);
+        due("11", x.step(), ALONE);
+        due("that", x.alone(), 1);
+        due("over", x.step(), NONE);
+    }
+
+    private static void splitAgain() {
+        RollCall x = withSeeds(SPLIT, 0, 3);
+        x.begin();
+        x.split();
+        x.image(0);
+        x.split();
+        x.split();
+        due("over", x.count(4), NONE);
+        x.again(0);
+        due("caller", x.count(4), 1);
+        due("counter", x.tell(0, 4), 0);
+        due("counter", x.tell(1, 4), 1);
+        due("seed", x.tell(1, 5), -984409216);
+        due("none was alone", x.alone(), NONE);
+        due("alone", x.split(), ALONE);
+    }
+
+    private static void framesAgain() {
+        RollCall x = withSeeds(SLOTTED, 0, 0, 3);
+        x.frame(64);
+        x.image(0);
+        x.act(0, GO);
+        x.frames();
+        x.frame(1);
+        x.frame(5);
+        x.again(0);
+        due("quiet", x.heard(0), 62);
+        due("alone", x.heard(1), 1);
+        due("collisions", x.heard(2), 1);
+        due("guess", x.heard(3), 2);
+        due("cost", x.cost(4), 64);
+        x.act(0, GO);
+        due("one was not found in a frame then", x.frame(1), 1);
+        due("that", x.found(1), 1);
+    }
+
+    private static void foundAgain() {
+        RollCall x = withTags(BIT, 1L, 2L);
+        x.image(0);
+        x.pass();
+        x.pass();
+        x.image(1);
+        x.again(0);
+        due("none", x.found(0), NONE);
+        x.act(0, GO);
+        x.pass();
+        x.again(1);
+        due("the first", x.found(0), 0);
+        due("the second", x.found(1), 1);
+        due("how often", x.tell(0, 6), 1);
+        due("cost", x.cost(3), 386);
     }
 }

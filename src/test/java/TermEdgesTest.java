@@ -627,6 +627,7 @@ public final class TermEdgesTest extends Words {
         othersThatListenOneMore();
         aloneHasNoneAnyMore();
         othersThatListenOneLess();
+        oneLessFromTwo();
         zeroAtLeast();
         overBelowZero();
     }
@@ -761,6 +762,21 @@ public final class TermEdgesTest extends Words {
         due("one that went keeps its own", x.tell(2, 4), 1);
         due("one asleep too", x.tell(3, 4), 1);
         due("a latecomer has none", x.tell(5, 4), NONE);
+        due("caller", x.count(4), 0);
+    }
+
+    private static void oneLessFromTwo() {
+        sentence(4, "it is one less, also of one that is above 1");
+        RollCall x = withSeeds(SPLIT, 0, 0, 3);
+        x.begin();
+        x.split();
+        x.split();
+        due("two", x.tell(2, 4), 2);
+        x.act(0, GO);
+        due("the one with 0", x.split(), ALONE);
+        due("one", x.tell(2, 4), 1);
+        due("quiet", x.split(), QUIET);
+        due("zero", x.tell(2, 4), 0);
         due("caller", x.count(4), 0);
     }
 
