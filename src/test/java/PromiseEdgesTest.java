@@ -60,10 +60,7 @@ public final class PromiseEdgesTest extends Words {
 
     private static void wireOfCopper() {
         sentence(1, "a WIRE of COPPER");
-        RollCall x = new RollCall();
-        x.tag(SLOTTED, 1L, 0);
-        x.tag(WEAK, 2L, 0);
-        due("both are heard", x.ask(0L, 0), COLLISION);
+        due("both are heard", strongAndWeak().ask(0L, 0), COLLISION);
     }
 
     private static void groupOfAll() {
@@ -117,26 +114,40 @@ public final class PromiseEdgesTest extends Words {
 
     // ---- 2, wire
 
-    private static void wire() {
-        sentence(2, "0 or 1, from now on: true");
+    private static RollCall strongAndWeak() {
         RollCall x = new RollCall();
         x.tag(SLOTTED, 1L, 0);
         x.tag(WEAK, 2L, 0);
+        return x;
+    }
+
+    private static void wire() {
+        wireOfAKind();
+        wireOfAnotherKind();
+    }
+
+    private static void wireOfAKind() {
+        sentence(2, "The WIRE is of a kind, 0 or 1, from now on: true");
+        RollCall x = strongAndWeak();
         due("air", x.wire(AIR), true);
         due("the strong one", x.ask(0L, 0), ALONE);
         due("air once more", x.wire(AIR), true);
+        due("the strong one", x.ask(0L, 0), ALONE);
         due("copper", x.wire(COPPER), true);
         due("both", x.ask(0L, 0), COLLISION);
         due("copper once more", x.wire(COPPER), true);
+        due("both", x.ask(0L, 0), COLLISION);
+    }
+
+    private static void wireOfAnotherKind() {
         sentence(2, "false for another one");
-        for (int kind : new int[] {MIN, -1, 2, 3, MAX}) {
-            due("wire(" + kind + ")", x.wire(kind), false);
-            due("still copper", x.ask(0L, 0), COLLISION);
-        }
-        x.wire(AIR);
-        for (int kind : new int[] {MIN, -1, 2, 3, MAX}) {
-            due("wire(" + kind + ")", x.wire(kind), false);
-            due("still air", x.ask(0L, 0), ALONE);
+        RollCall x = strongAndWeak();
+        for (int wire = COPPER; wire <= AIR; wire++) {
+            x.wire(wire);
+            for (int kind : new int[] {MIN, -1, 2, 3, MAX}) {
+                due("wire(" + kind + ")", x.wire(kind), false);
+                due("as it was", x.ask(0L, 0), wire == AIR ? ALONE : COLLISION);
+            }
         }
     }
 
@@ -368,14 +379,24 @@ public final class PromiseEdgesTest extends Words {
     // ---- 8, group
 
     private static void group() {
+        bitsBeyondTheMask();
+        howManyListen();
+        groupFromNowOn();
+    }
+
+    private static void bitsBeyondTheMask() {
         sentence(8, "(bits beyond the mask count for nothing)");
         RollCall x = withTags(BIT, 1L, 2L, FIRST);
         due("a mask of 0", x.group(0L, -1L), 3);
         due("the first bit, others set", x.group(FIRST_OF_NAME, -1L), 1);
         due("the first bit, others clear", x.group(FIRST_OF_NAME, FIRST_OF_NAME), 1);
         due("not the first bit, others set", x.group(FIRST_OF_NAME, Long.MAX_VALUE), 2);
+    }
+
+    private static void howManyListen() {
         sentence(8, "how many LISTEN");
         due("none without tags", new RollCall().group(0L, 0L), 0);
+        RollCall x = withTags(BIT, 1L, 2L, FIRST);
         due("one by its whole name", x.group(-1L, 305L), 1);
         due("none by another name", x.group(-1L, 306L), 0);
         due("as count tells", x.count(1), 0);
@@ -385,11 +406,18 @@ public final class PromiseEdgesTest extends Words {
         due("sleepers do not", y.group(0L, 0L), 0);
         y.act(1, WAKE_UP);
         due("but awake", y.group(0L, 0L), 1);
+    }
+
+    private static void groupFromNowOn() {
         sentence(8, "The GROUP from now on");
+        RollCall x = withTags(BIT, 1L, 2L);
         x.group(-1L, 0x262L);
         x.tag(BIT, 3L, 0);
-        due("a latecomer beyond it", x.tell(3, 3), 0);
+        due("a latecomer beyond it", x.tell(2, 3), 0);
         due("the one in it", x.pass(), 1);
+        due("and again", x.pass(), 1);
+        x.group(-1L, 305L);
+        due("another group", x.pass(), 0);
     }
 
     // ---- 9, pass, and 10, fork
@@ -413,6 +441,12 @@ public final class PromiseEdgesTest extends Words {
     }
 
     private static void fork() {
+        bitOfTheLastFork();
+        passesOfThisRow();
+        noSuchWhatOfFork();
+    }
+
+    private static void bitOfTheLastFork() {
         sentence(10, "the bit of the LAST FORK (NONE: the next pass is a first one)");
         RollCall x = withTags(BIT, 0L, 1L, FIRST);
         due("at first", x.fork(0), NONE);
@@ -422,7 +456,12 @@ public final class PromiseEdgesTest extends Words {
         due("the first bit", x.fork(0), 0);
         x.pass();
         due("over", x.fork(0), NONE);
+    }
+
+    private static void passesOfThisRow() {
         sentence(10, "passes of this row so far (0 if the next one is a first one)");
+        RollCall x = withTags(BIT, 0L, 1L, FIRST);
+        due("at first", x.fork(1), 0);
         int[] passes = {1, 2, 0, 1, 2, 0};
         for (int so : passes) {
             x.pass();
@@ -432,9 +471,16 @@ public final class PromiseEdgesTest extends Words {
         x.group(-1L, 1L);
         x.pass();
         due("behind one that found none", x.fork(1), 0);
+    }
+
+    private static void noSuchWhatOfFork() {
         sentence(10, "NONE for another what");
-        for (int what : new int[] {MIN, -1, 2, 3, MAX}) {
-            due("fork(" + what + ")", x.fork(what), NONE);
+        RollCall x = withTags(BIT, 0L, 1L, FIRST);
+        for (int round = 0; round < 2; round++) {
+            for (int what : new int[] {MIN, -1, 2, 3, MAX}) {
+                due("fork(" + what + ")", x.fork(what), NONE);
+            }
+            x.pass();
         }
     }
 
@@ -511,6 +557,11 @@ public final class PromiseEdgesTest extends Words {
     // ---- 12, ask, and 13, alone
 
     private static void ask() {
+        theFirstBitsOfANumber();
+        noSuchLengthOfARow();
+    }
+
+    private static void theFirstBitsOfANumber() {
         sentence(12, "the first n bits of a number (its highest)");
         RollCall x = withTags(ASKED, FIRST, FIRST | 1L);
         due("n 0", x.ask(0L, 0), COLLISION);
@@ -522,14 +573,23 @@ public final class PromiseEdgesTest extends Words {
         due("n 63", x.ask(x.name(0) ^ 1L, 63), ALONE);
         due("n 64", x.ask(x.name(0), 64), ALONE);
         due("n 64, another", x.ask(x.name(0) ^ 1L, 64), QUIET);
+    }
+
+    private static void noSuchLengthOfARow() {
         sentence(12, "NONE: n is not 0 .. 64");
+        RollCall x = withTags(ASKED, FIRST);
         for (int n : new int[] {MIN, -64, -1, 65, 128, MAX}) {
-            due("n " + n, x.ask(0L, n), NONE);
+            due("n " + n, x.ask(FIRST_OF_NAME, n), NONE);
         }
-        due("no slots", x.cost(4), 9);
+        due("no slots", x.cost(4), 0);
     }
 
     private static void alone() {
+        noneWasAlone();
+        latestSlotOfThese();
+    }
+
+    private static void noneWasAlone() {
         sentence(13, "NONE if none was");
         RollCall x = withSeeds(SPLIT, 0, 3);
         due("no slot yet", x.alone(), NONE);
@@ -555,7 +615,6 @@ public final class PromiseEdgesTest extends Words {
         x.act(1, GO);
         x.split();
         due("quiet in split", x.alone(), NONE);
-        latestSlotOfThese();
     }
 
     private static void latestSlotOfThese() {
@@ -585,6 +644,12 @@ public final class PromiseEdgesTest extends Words {
     // ---- 14, descend, and 15, step
 
     private static void descent() {
+        descentBeginsAnew();
+        noDescentToStep();
+        stepAsAskTellsIt();
+    }
+
+    private static void descentBeginsAnew() {
         sentence(14, "A DESCENT begins anew");
         RollCall x = withTags(ASKED, 0L, 1L);
         for (int steps = 0; steps < 3; steps++) {
@@ -596,25 +661,42 @@ public final class PromiseEdgesTest extends Words {
             }
             due("rows", x.count(3), 2 + steps);
         }
+    }
+
+    private static void noDescentToStep() {
         sentence(15, "NONE: none is under way");
-        RollCall y = withTags(ASKED, 1L);
-        due("none yet", y.step(), NONE);
-        y.descend();
-        due("one", y.step(), ALONE);
-        due("over", y.step(), NONE);
-        due("over still", y.step(), NONE);
-        due("one slot", y.cost(4), 1);
-        due("found once", y.count(2), 1);
-        y.descend();
-        due("anew", y.step(), ALONE);
-        sentence(15, "as ask() tells it");
-        due("quiet, alone", y.cost(0) * 10 + y.cost(1), 2);
-        due("who", y.alone(), 0);
+        RollCall x = withTags(ASKED, 1L);
+        due("none yet", x.step(), NONE);
+        x.descend();
+        due("one", x.step(), ALONE);
+        due("over", x.step(), NONE);
+        due("over still", x.step(), NONE);
+        due("one slot", x.cost(4), 1);
+        due("found once", x.count(2), 1);
+        x.descend();
+        due("anew", x.step(), ALONE);
+    }
+
+    private static void stepAsAskTellsIt() {
+        sentence(15, "A STEP of the DESCENT, as ask() tells it");
+        RollCall x = withTags(ASKED, FIRST, FIRST | FIRST >>> 1);
+        x.descend();
+        due("all", x.step(), COLLISION);
+        due("0", x.step(), QUIET);
+        due("1", x.step(), COLLISION);
+        due("10", x.step(), ALONE);
+        due("that", x.alone(), 0);
     }
 
     // ---- 16, nodes
 
     private static void nodes() {
+        questionsOfADescent();
+        nodesOfThoseThatListen();
+        nodesAsHeard();
+    }
+
+    private static void questionsOfADescent() {
         sentence(16, "How many questions a DESCENT would ask");
         RollCall x = new RollCall();
         due("nobody", x.nodes(), 1);
@@ -626,17 +708,19 @@ public final class PromiseEdgesTest extends Words {
         due("two that part at the last bit", x.nodes(), 1 + 2 * 56);
         x.tag(ASKED, FIRST, 0);
         due("and one apart from them", x.nodes(), 1 + 2 * 56);
-        RollCall y = new RollCall();
+        due("no slots", x.cost(4), 0);
+    }
+
+    private static void nodesOfThoseThatListen() {
+        sentence(16, "of those that LISTEN now");
+        RollCall x = new RollCall();
         for (int t = 0; t < 40; t++) {
-            y.tag(ASKED, (long) t << 50, 0);
+            x.tag(ASKED, (long) t << 50, 0);
         }
         // Numbers 0 .. 39 of 6 bits at the front: 1 + 2 + 3 + 5 + 10 + 20 rows with a collision.
-        due("forty", y.nodes(), 1 + 2 * (1 + 2 + 3 + 5 + 10 + 20));
-        sentence(16, "of those that LISTEN now");
-        due("nobody of the group", listeningNodes(y, -1L, 77L), 1);
-        due("half of them", listeningNodes(y, 1L << 58, 0L), 1 + 2 * (1 + 2 + 3 + 5 + 10));
-        due("no slots", y.cost(4), 0);
-        nodesAsHeard();
+        due("forty", x.nodes(), 1 + 2 * (1 + 2 + 3 + 5 + 10 + 20));
+        due("nobody of the group", listeningNodes(x, -1L, 77L), 1);
+        due("half of them", listeningNodes(x, 1L << 58, 0L), 1 + 2 * (1 + 2 + 3 + 5 + 10));
     }
 
     private static int listeningNodes(RollCall x, long mask, long bits) {
@@ -664,6 +748,12 @@ public final class PromiseEdgesTest extends Words {
     // ---- 17, begin, and 18, split
 
     private static void split() {
+        howManyHaveACounter();
+        noSplitToStep();
+        splitAsAskTellsIt();
+    }
+
+    private static void howManyHaveACounter() {
         sentence(17, "how many have a counter");
         due("no tags", new RollCall().begin(), 0);
         RollCall x = new RollCall();
@@ -680,26 +770,41 @@ public final class PromiseEdgesTest extends Words {
         due("one of the group", x.begin(), 1);
         due("others have none", x.tell(0, 4), NONE);
         due("no slots", x.cost(4), 0);
+    }
+
+    private static void noSplitToStep() {
         sentence(18, "NONE: none is under way");
-        RollCall y = new RollCall();
-        due("none yet", y.split(), NONE);
-        y.begin();
-        due("nobody", y.split(), QUIET);
-        due("over", y.split(), NONE);
-        due("over still", y.split(), NONE);
-        due("one slot", y.cost(4), 1);
-        sentence(18, "as ask() tells it");
-        RollCall z = withSeeds(SPLIT, 0, 3);
-        z.begin();
-        due("collision", z.split(), COLLISION);
-        due("alone", z.split(), ALONE);
-        z.act(1, GO);
-        due("quiet", z.split(), QUIET);
+        RollCall x = new RollCall();
+        due("none yet", x.split(), NONE);
+        x.begin();
+        due("nobody", x.split(), QUIET);
+        due("over", x.split(), NONE);
+        due("over still", x.split(), NONE);
+        due("one slot", x.cost(4), 1);
+        x.begin();
+        due("anew", x.split(), QUIET);
+    }
+
+    private static void splitAsAskTellsIt() {
+        sentence(18, "A STEP of the SPLIT, as ask() tells it");
+        RollCall x = withSeeds(SPLIT, 0, 3);
+        x.begin();
+        due("collision", x.split(), COLLISION);
+        due("alone", x.split(), ALONE);
+        due("that", x.alone(), 0);
+        x.act(1, GO);
+        due("quiet", x.split(), QUIET);
     }
 
     // ---- 19, frames, and 20, frame
 
     private static void frames() {
+        framesBegin();
+        howManyWereFoundInIt();
+        noSuchLengthOfAFrame();
+    }
+
+    private static void framesBegin() {
         sentence(19, "Frames begin: nobody was found in one");
         RollCall x = withSeeds(SPLIT, 0, 3);
         due("two", x.frame(64), 2);
@@ -714,35 +819,59 @@ public final class PromiseEdgesTest extends Words {
         x.act(1, GO);
         x.act(2, GO);
         due("also for one that was away then", x.frame(1), 1);
-        sentence(20, "how many were found in it");
-        RollCall y = new RollCall();
-        due("no tags", y.frame(1), 0);
+    }
+
+    private static RollCall fortyInSlotsOfTheirOwn() {
+        RollCall x = new RollCall();
         for (int t = 0; t < 40; t++) {
-            y.tag(SLOTTED, t, seedForSlot(63 - t));
+            x.tag(SLOTTED, t, seedForSlot(63 - t));
         }
-        due("none of forty in one slot", withSeeds(SLOTTED, 1, 2).frame(1), 0);
-        due("all forty", y.frame(64), 40);
+        return x;
+    }
+
+    private static void howManyWereFoundInIt() {
+        sentence(20, "how many were found in it");
+        due("no tags, the shortest", new RollCall().frame(1), 0);
+        due("no tags, the longest", new RollCall().frame(64), 0);
+        due("none of two in one slot", withSeeds(SLOTTED, 1, 2).frame(1), 0);
+        due("none of forty in one slot", fortyInSlotsOfTheirOwn().frame(1), 0);
+        due("all forty", fortyInSlotsOfTheirOwn().frame(64), 40);
+    }
+
+    private static void noSuchLengthOfAFrame() {
         sentence(20, "NONE: another length");
-        y.frames();
+        RollCall x = fortyInSlotsOfTheirOwn();
         for (int length : new int[] {MIN, -64, -1, 0, 65, 128, MAX}) {
-            due("length " + length, y.frame(length), NONE);
+            due("length " + length, x.frame(length), NONE);
         }
-        due("the latest frame is another", y.heard(1), 40);
-        due("no slots", y.cost(4), 65);
+        due("no slots", x.cost(4), 0);
+        due("no draws", x.frame(64), 40);
+        due("length 65", x.frame(65), NONE);
+        due("the latest frame is another", x.heard(1), 40);
     }
 
     // ---- 21, heard
 
     private static void heard() {
+        aheadOfAnyFrame();
+        ofTheLatestFrame();
+        noSuchWhatOfHeard();
+    }
+
+    private static void aheadOfAnyFrame() {
         sentence(21, "(0 for all ahead of any)");
         RollCall x = withSeeds(SLOTTED, 0, 0);
+        x.frame(0);
+        x.frames();
+        x.ask(0L, 0);
         for (int what = 0; what < 4; what++) {
             due("heard(" + what + ")", x.heard(what), 0);
         }
-        x.frame(0);
-        x.frames();
-        due("a refused frame is none", x.heard(3), 0);
-        sentence(21, "Of the latest frame");
+    }
+
+    private static void ofTheLatestFrame() {
+        sentence(21, "Of the latest frame, QUIET, ALONE, COLLISION slots, the length guessed next");
+        RollCall x = withSeeds(SLOTTED, 0, 0);
         x.frame(2);
         due("quiet", x.heard(0), 1);
         due("alone", x.heard(1), 0);
@@ -755,10 +884,16 @@ public final class PromiseEdgesTest extends Words {
         due("alone", x.heard(1), 1);
         due("collision", x.heard(2), 0);
         due("1 at least", x.heard(3), 1);
+    }
+
+    private static void noSuchWhatOfHeard() {
         sentence(21, "NONE for another what");
-        for (int what : new int[] {MIN, -1, 4, 5, MAX}) {
-            due("heard(" + what + ")", x.heard(what), NONE);
-            due("ahead of any", new RollCall().heard(what), NONE);
+        RollCall x = withSeeds(SLOTTED, 0, 0);
+        for (int round = 0; round < 2; round++) {
+            for (int what : new int[] {MIN, -1, 4, 5, MAX}) {
+                due("heard(" + what + ")", x.heard(what), NONE);
+            }
+            x.frame(5);
         }
     }
 
@@ -785,6 +920,34 @@ public final class PromiseEdgesTest extends Words {
     }
 
     private static void cost() {
+        slotsByKinds();
+        noSuchWhatOfCost();
+    }
+
+    private static void slotsByKinds() {
+        sentence(23, "of questions, counters, frames; of passes and verify(); all");
+        RollCall x = withTags(SPLIT, 1L);
+        for (int what = 0; what < 5; what++) {
+            due("none yet", x.cost(what), 0);
+        }
+        x.ask(0L, 0);
+        x.pass();
+        x.descend();
+        x.step();
+        x.begin();
+        x.split();
+        x.frame(3);
+        x.verify(0L);
+        x.tag(SPLIT, 2L, 0);
+        x.ask(0L, 0);
+        // 0 and 305 part at bit 55: 1 and 3 for each of 56 bits.
+        int[] costs = {2, 4, 1, 193 + 169, 7 + 193 + 169};
+        for (int what = 0; what < 5; what++) {
+            due("cost(" + what + ")", x.cost(what), costs[what]);
+        }
+    }
+
+    private static void noSuchWhatOfCost() {
         sentence(23, "NONE for another what");
         RollCall x = withTags(SPLIT, 1L);
         x.ask(0L, 0);
@@ -792,41 +955,65 @@ public final class PromiseEdgesTest extends Words {
         for (int what : new int[] {MIN, -1, 5, 6, MAX}) {
             due("cost(" + what + ")", x.cost(what), NONE);
         }
-        sentence(23, "of questions, counters, frames; of passes and verify(); all");
-        x.descend();
-        x.step();
-        x.begin();
-        x.split();
-        x.frame(3);
-        x.verify(0L);
-        int[] costs = {2, 4, 0, 193 + 169, 6 + 193 + 169};
-        for (int what = 0; what < 5; what++) {
-            due("cost(" + what + ")", x.cost(what), costs[what]);
-        }
     }
 
     // ---- 24, count
 
     private static void count() {
+        countOfTags();
+        countOfFound();
+        countOfRows();
+        callersCount();
+        noSuchWhatOfCount();
+    }
+
+    private static void countOfTags() {
+        sentence(24, "How many: 0 TAGS, 1 that LISTEN");
+        RollCall x = new RollCall();
+        for (int t = 0; t < 40; t++) {
+            due("tags", x.count(0), t);
+            due("that listen", x.count(1), t / 2);
+            x.tag(t % 2 == 0 ? SLEEPER : BIT, t, 0);
+        }
+        x.tag(BIT, 40L, 0);
+        due("forty", x.count(0), 40);
+        due("that listen", x.count(1), 20);
+    }
+
+    private static void countOfFound() {
         sentence(24, "2 in the row of FOUND (200 at most)");
         RollCall x = withTags(SPLIT, 1L);
         for (int k = 0; k < 203; k++) {
             due("found", x.count(2), Math.min(k, 200));
             x.pass();
         }
+    }
+
+    private static void countOfRows() {
         sentence(24, "3 rows on the pile of the DESCENT");
+        RollCall x = withTags(ASKED, 1L);
         due("none", x.count(3), 0);
         x.descend();
         due("one", x.count(3), 1);
         x.step();
         due("none", x.count(3), 0);
+    }
+
+    private static void callersCount() {
         sentence(24, "4 the caller's count of the SPLIT (NONE if none is under way)");
+        RollCall x = withTags(SPLIT, 1L);
         due("none yet", x.count(4), NONE);
         x.begin();
         due("0", x.count(4), 0);
         x.split();
         due("over", x.count(4), NONE);
+        x.split();
+        due("over still", x.count(4), NONE);
+    }
+
+    private static void noSuchWhatOfCount() {
         sentence(24, "NONE for another what");
+        RollCall x = withTags(SPLIT, 1L);
         for (int what : new int[] {MIN, -1, 5, 6, MAX}) {
             due("count(" + what + ")", x.count(what), NONE);
         }
@@ -835,6 +1022,11 @@ public final class PromiseEdgesTest extends Words {
     // ---- 25, image, and 26, again
 
     private static void image() {
+        fourImages();
+        asItIsNow();
+    }
+
+    private static void fourImages() {
         sentence(25, "Image k (0 .. 3): true; false for another k");
         RollCall x = new RollCall();
         for (int k : new int[] {MIN, -1, 4, 5, MAX}) {
@@ -845,26 +1037,44 @@ public final class PromiseEdgesTest extends Words {
             due("image(" + k + ")", x.image(k), true);
             due("made", x.again(k), true);
         }
+    }
+
+    private static void asItIsNow() {
         sentence(25, "all that is told, as it is now");
-        RollCall y = withTags(BIT, 1L);
-        y.image(0);
-        y.tag(BIT, 2L, 0);
-        y.pass();
-        y.image(1);
-        y.pass();
-        y.again(0);
-        due("as it was, not as it came to be", y.count(0) * 10 + y.count(2), 10);
-        y.again(1);
-        due("each image for itself", y.count(0) * 10 + y.count(2), 21);
-        y.pass();
-        y.image(0);
-        y.again(1);
-        due("the other image is as it was", y.count(2), 1);
-        y.again(0);
-        due("a newer one is in its place", y.count(2), 2);
+        RollCall x = withTags(BIT, 1L);
+        x.image(0);
+        x.tag(BIT, 2L, 0);
+        x.pass();
+        x.image(1);
+        x.pass();
+        x.again(0);
+        due("as it was, not as it came to be", x.count(0) * 10 + x.count(2), 10);
+        x.again(1);
+        due("each image for itself", x.count(0) * 10 + x.count(2), 21);
+        x.pass();
+        x.image(0);
+        x.again(1);
+        due("the other image is as it was", x.count(2), 1);
+        x.again(0);
+        due("a newer one is in its place", x.count(2), 2);
     }
 
     private static void again() {
+        noSuchImage();
+        sentence(26, "All that is as image k has it: true");
+        emptyAndFullAgain();
+        everyPartAgain();
+        tagsAgain();
+        newTagInAnOldPlace();
+        wireAndGroupAgain();
+        passesAgain();
+        descentAgain();
+        splitAgain();
+        framesAgain();
+        foundAgain();
+    }
+
+    private static void noSuchImage() {
         sentence(26, "false if there is none such");
         RollCall x = withTags(BIT, 1L);
         x.image(2);
@@ -872,16 +1082,6 @@ public final class PromiseEdgesTest extends Words {
             due("again(" + k + ")", x.again(k), false);
         }
         due("again(2)", x.again(2), true);
-        sentence(26, "All that is as image k has it: true");
-        emptyAndFullAgain();
-        everyPartAgain();
-        tagsAgain();
-        wireAndGroupAgain();
-        passesAgain();
-        descentAgain();
-        splitAgain();
-        framesAgain();
-        foundAgain();
     }
 
     private static void emptyAndFullAgain() {
@@ -962,6 +1162,22 @@ public final class PromiseEdgesTest extends Words {
             due("tell(0, " + what + ")", x.tell(0, what), told[what]);
         }
         due("one", x.count(0), 1);
+    }
+
+    private static void newTagInAnOldPlace() {
+        RollCall x = new RollCall();
+        x.image(0);
+        x.tag(SPLIT, 1L, 7);
+        x.act(0, GO);
+        x.tag(SPLIT, 2L, 7);
+        x.begin();
+        x.frame(1);
+        x.again(0);
+        x.tag(SPLIT, 3L, 0);
+        x.tag(SPLIT, 4L, 3);
+        due("there, as at its making", x.tell(0, 1), 1);
+        due("no counter", x.tell(1, 4), NONE);
+        due("not found in a frame yet", x.frame(64), 2);
     }
 
     private static void wireAndGroupAgain() {
